@@ -178,22 +178,23 @@ public final class ReelConsole {
 
     /** Executes the command that was read last; false, with nothing changed, if its method would throw. */
     private boolean execute() {
-        if (text.command == 't') {
-            room.runMinutes(text.minutes);
-            return true;
+        switch (text.command) {
+            case 't':
+                room.runMinutes(text.minutes);
+                return true;
+            case 'd':
+                if (!room.hasNextDay()) {
+                    return false;
+                }
+                room.day++;
+                return true;
+            default:
+                if (!room.takesJob(text.kind, text.volume)) {
+                    return false;
+                }
+                room.jobs.add(text.kind, text.volume, text.minutes, text.priority);
+                return true;
         }
-        if (text.command == 'd') {
-            if (!room.hasNextDay()) {
-                return false;
-            }
-            room.day++;
-            return true;
-        }
-        if (!room.takesJob(text.kind, text.volume)) {
-            return false;
-        }
-        room.jobs.add(text.kind, text.volume, text.minutes, text.priority);
-        return true;
     }
 
     // ---- undo
@@ -463,7 +464,7 @@ public final class ReelConsole {
         }
 
         boolean has(int job) {
-            return isWithin(job, 0, number - 1) && job < MAX_JOBS;
+            return isWithin(job, 0, number - 1);
         }
 
         boolean isFull() {
@@ -481,7 +482,6 @@ public final class ReelConsole {
             volumes[job] = volume;
             minutes[job] = length;
             priorities[job] = priority;
-            // An undone submission may have left its numbers in this place.
             states[job] = WAITING;
             blocks[job] = 0;
             mounted[job] = NONE;
@@ -769,31 +769,26 @@ public final class ReelConsole {
 
         /** Reads a command; if there is none, answers false and stays where the text goes wrong. */
         boolean readCommand() {
-            if (skip('d')) {
-                command = 'd';
-                return true;
+            command = characterHere();
+            switch (command) {
+                case 'r': return readSubmission(READ);
+                case 'w': return readSubmission(WRITE);
+                case 'c': return readSubmission(CREATE);
+                case 't':
+                    position++;
+                    minutes = readNumber(MAX_PASS);
+                    return minutes > 0;
+                case 'd':
+                    position++;
+                    return true;
+                default: return false;
             }
-            if (skip('t')) {
-                command = 't';
-                minutes = readNumber(MAX_PASS);
-                return minutes > 0;
-            }
-            return readSubmission();
         }
 
-        boolean readSubmission() {
-            if (skip('r')) {
-                command = 'r';
-                kind = READ;
-            } else if (skip('w')) {
-                command = 'w';
-                kind = WRITE;
-            } else if (skip('c')) {
-                command = 'c';
-                kind = CREATE;
-            } else {
-                return false;
-            }
+        /** Reads the rest of a submission, standing on its letter. */
+        boolean readSubmission(int kindOfLetter) {
+            position++;
+            kind = kindOfLetter;
             volume = readNumber(MAX_VOLUME);
             if (volume == 0 || !skip('*')) {
                 return false;
@@ -830,7 +825,7 @@ public final class ReelConsole {
 
         /** Goes past this character, if it stands here. */
         boolean skip(char character) {
-            if (position >= length || characters[position] != character) {
+            if (characterHere() != character) {
                 return false;
             }
             position++;
@@ -838,10 +833,13 @@ public final class ReelConsole {
         }
 
         int digitHere() {
-            if (position >= length || !isWithin(characters[position], '0', '9')) {
-                return NONE;
-            }
-            return characters[position] - '0';
+            int character = characterHere();
+            return isWithin(character, '0', '9') ? character - '0' : NONE;
+        }
+
+        /** The character that is read next; NONE at the end of the text. */
+        int characterHere() {
+            return isWithin(position, 0, length - 1) ? characters[position] : NONE;
         }
     }
 }
