@@ -374,7 +374,9 @@ public final class ReelConsole {
         void copyFrom(Reels other) {
             System.arraycopy(other.labels, 0, labels, 0, REELS);
             System.arraycopy(other.stickers, 0, stickers, 0, REELS);
-            System.arraycopy(other.rings, 0, rings, 0, REELS);
+            for (int reel = 0; reel < REELS; reel++) {
+                rings[reel] = other.rings[reel];
+            }
             System.arraycopy(other.expiryDays, 0, expiryDays, 0, REELS);
             System.arraycopy(other.blocks, 0, blocks, 0, REELS);
             System.arraycopy(other.drives, 0, drives, 0, REELS);

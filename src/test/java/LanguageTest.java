@@ -14,6 +14,7 @@ public final class LanguageTest {
         "\\bimport\\b", "\\bpackage\\b", "->", "::", "\\bcatch\\b", "\\btry\\b", "\\bfinally\\b", "\\bassert\\b",
         "\\bsynchronized\\b", "\\bprotected\\b", "\\bstatic\\s*\\{", "Exact\\s*\\(", "\\bObject\\b", "\\.equals\\b",
         "\\bhashCode\\b", "\\btoString\\b", "\\bString\\b", "\\bSystem\\.(?!arraycopy\\b)", "\\bMath\\.(?!floorMod\\b)",
+        "arraycopy\\(other\\.rings\\b",
         "\\bwhile \\(true\\)", "for \\(;;\\)", "\\bstatic (?!final\\b|boolean isWithin\\b|boolean isReel\\b)",
         "new (?!Room\\(|Reels\\(|Jobs\\(|History\\(|CommandText\\(|int\\[|boolean\\[|Room\\[|"
                 + "(IllegalArgument|IllegalState|IndexOutOfBounds)Exception\\(\"\"\\))\\w",

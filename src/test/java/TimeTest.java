@@ -142,7 +142,7 @@ public final class TimeTest {
             r.pass(1);
         }).reel(6, 3));
         ReelConsole late = Check.after(r -> {
-            toDay(r, 999);
+            Check.toDay(r, 999);
             r.set(1, 99);
             r.setSticker(4, 0);
             r.submit(CREATE, 5, 2, 0);
@@ -310,18 +310,8 @@ public final class TimeTest {
         Check.due("nextDay() again", 2, x.nextDay());
         Check.due("no minute passes", 0, x.count(1));
         Check.undoable("nextDay", 1, r -> { }, ReelConsole::nextDay);
-        Check.undoable("the last nextDay", 999, r -> toDay(r, 998), ReelConsole::nextDay);
-        Check.refused("nextDay on day 999", STATE, r -> toDay(r, 999), ReelConsole::nextDay);
-    }
-
-    private static void toDay(ReelConsole x, int day) {
-        Check.type(x, "d;".repeat(39) + "d");
-        while (x.count(0) + 40 <= day) {
-            x.runText();
-        }
-        while (x.count(0) < day) {
-            x.nextDay();
-        }
+        Check.undoable("the last nextDay", 999, r -> Check.toDay(r, 998), ReelConsole::nextDay);
+        Check.refused("nextDay on day 999", STATE, r -> Check.toDay(r, 999), ReelConsole::nextDay);
     }
 
     private static void setChangesASetting() {

@@ -11,6 +11,7 @@ final class Check {
     }
 
     private static int wrong = 0;
+    private static String sentence = "";
 
     private Check() {
     }
@@ -18,8 +19,13 @@ final class Check {
     static void due(String what, Object want, Object got) {
         if (!Objects.equals(want, got)) {
             wrong++;
-            System.out.println(what + " answered " + got + ", due is " + want);
+            System.out.println(sentence + what + " answered " + got + ", due is " + want);
         }
+    }
+
+    /** The words of the document that the checks from here on hold the program to. */
+    static void sentence(String words) {
+        sentence = "\"" + words + "\": ";
     }
 
     /** The answer of a call as a text: "throws.X" with the exact class of an exception. */
@@ -115,6 +121,18 @@ final class Check {
         for (int at = 0; at < text.length(); at++) {
             x.appendText(text.charAt(at));
         }
+    }
+
+    /** Lets so many days begin, with few calls, and leaves the text empty. */
+    static void toDay(ReelConsole x, int days) {
+        type(x, "d;".repeat(39) + "d");
+        for (int run = 0; run < days / 40; run++) {
+            x.runText();
+        }
+        for (int left = days % 40; left > 0; left--) {
+            x.nextDay();
+        }
+        x.clearText();
     }
 
     static void end(String test) {
