@@ -841,7 +841,7 @@ public final class ReelConsole {
 
         /** The character that is read next; NONE at the end of the text. */
         int characterHere() {
-            return isWithin(position, 0, length - 1) ? characters[position] : NONE;
+            return position >= 0 && position < length ? characters[position] : NONE;
         }
     }
 }

@@ -10,7 +10,7 @@ public final class CountsTest {
         Check.end("CountsTest");
     }
 
-    /** After nine minutes: five mounts with one slip and two reels sent back, six blocks read, six and three written. */
+    /** After nine minutes: five mounts, one slip, two reels sent back, six blocks read, six and three written. */
     private static void busy(ReelConsole x) {
         x.nextDay();
         x.nextDay();

@@ -61,7 +61,8 @@ public final class JobsTest {
             Check.refused(what, ARGUMENT, x -> { }, x -> x.submit(a[0], a[1], a[2], a[3]));
             Check.refused(what + " to a full room", ARGUMENT, JobsTest::fill, x -> x.submit(a[0], a[1], a[2], a[3]));
         }
-        Check.refused("a CREATE of a kept label with wrong minutes", ARGUMENT, x -> { }, x -> x.submit(CREATE, 1, 0, 0));
+        Check.refused("a CREATE of a kept label with wrong minutes", ARGUMENT, x -> { },
+                x -> x.submit(CREATE, 1, 0, 0));
     }
 
     private static void fill(ReelConsole x) {

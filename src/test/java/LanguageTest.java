@@ -1,4 +1,7 @@
 import java.io.IOException;
+import java.lang.reflect.Field;
+import java.lang.reflect.Method;
+import java.lang.reflect.Modifier;
 import java.nio.file.Files;
 import java.nio.file.Path;
 import java.util.ArrayList;
@@ -30,14 +33,15 @@ public final class LanguageTest {
         }
         noOwnMethodIsNamedAsOneOfTheFace(source);
         methodsAreShort(source);
+        classesAreFewAndSmall();
         Check.end("LanguageTest");
     }
 
     private static void noOwnMethodIsNamedAsOneOfTheFace(String source) {
         Set<String> face = new TreeSet<>();
         List<String> own = new ArrayList<>();
-        Matcher method = Pattern.compile("(?m)^ {4,8}(public |private )?(static )?(?:int|boolean|double|void) (\\w+)\\(")
-                .matcher(source);
+        Matcher method = Pattern.compile(
+                "(?m)^ {4,8}(public |private )?(static )?(?:int|boolean|double|void) (\\w+)\\(").matcher(source);
         while (method.find()) {
             if ("public ".equals(method.group(1))) {
                 face.add(method.group(3));
@@ -62,6 +66,30 @@ public final class LanguageTest {
                 }
                 begun = -1;
             }
+        }
+    }
+
+    private static void classesAreFewAndSmall() {
+        Class<?>[] inside = ReelConsole.class.getDeclaredClasses();
+        Check.due("at most twelve classes", true, inside.length < 12);
+        hasFewFieldsAndParameters(ReelConsole.class);
+        for (Class<?> own : inside) {
+            Check.due(own + " is static", true, Modifier.isStatic(own.getModifiers()));
+            hasFewFieldsAndParameters(own);
+        }
+    }
+
+    private static void hasFewFieldsAndParameters(Class<?> own) {
+        int fields = 0;
+        for (Field field : own.getDeclaredFields()) {
+            boolean isStatic = Modifier.isStatic(field.getModifiers());
+            Check.due(field + " is final, if it is static", true,
+                    !isStatic || Modifier.isFinal(field.getModifiers()));
+            fields += isStatic ? 0 : 1;
+        }
+        Check.due(own + " has at most twenty fields", true, fields <= 20);
+        for (Method method : own.getDeclaredMethods()) {
+            Check.due(method + " has at most seven parameters", true, method.getParameterCount() <= 7);
         }
     }
 }
